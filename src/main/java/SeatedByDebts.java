@@ -1,13 +1,13 @@
 import java.util.Arrays;
 
-/** People who owe each other, seated at dinner by what is owed. The document ../shared/DOC.md tells what each call answers. */
+/** People who owe each other, seated at dinner by what is owed; ../shared/DOC.md tells what each call answers. */
 public final class SeatedByDebts {
     public static final int NONE = -1, BAD = -2, STATE = -3, FULL = -4;
     public static final long NO = -4611686018427387904L;
 
     private static final int NOTHING = -11, OUTSIDE = -12, OTHER_SORT = -13, BELOW_ZERO = -14;
     private static final int NO_TABLE = -100000, FAULT_BASE = -100;
-    private static final int MOST_PEOPLE = 7, MOST_NUMBER = 9, MOST_OWED = 999, MOST_DINNERS = 999;
+    private static final int MOST_PEOPLE = 7, MOST_NUMBER = 9, MOST_OWED = 999, RUIN = 1000, MOST_DINNERS = 999;
     private static final int MOST_TEXTS = 6, MOST_SHEETS = 4, MOST_RUN = 20, MOST_SEEDS = 20;
     private static final int MISSING = -1, BYTES = 0, SHORTS = 1, INTS = 2;
 
@@ -765,7 +765,7 @@ public final class SeatedByDebts {
         int ruined() {
             int bits = 0;
             for (int one = 0; one < people; one++) {
-                bits |= owesInAll(one) > MOST_OWED ? 1 << one : 0;
+                bits |= owesInAll(one) >= RUIN ? 1 << one : 0;
             }
             return bits;
         }
@@ -1135,13 +1135,12 @@ public final class SeatedByDebts {
 
     /** What two neighbours do to each other, by the rule. */
     private static final class Manners {
-        private static final int[] FIRST_STEPS = {5, 2, 1};
-
         final Rule[] rules = new Rule[MOST_TEXTS];
         private final int[] facts = new int[6];
 
         Manners() {
-            Rule first = new Rule(FIRST_STEPS, 1, 2);
+            // forgives 5 ; lends 2 ; joys 1 ; which stands for those not yet read, too, so that none is null
+            Rule first = new Rule(new int[] {5, 2, 1}, 1, 2);
             for (int i = 0; i < MOST_TEXTS; i++) {
                 rules[i] = first;
             }
@@ -1218,8 +1217,8 @@ public final class SeatedByDebts {
          * table, so a pair's part in it does not hang on the other pairs, and is found but once.
          */
         private final int[] worth = new int[MOST_PEOPLE * MOST_PEOPLE * MOST_PEOPLE];
-        /** With so many seats taken, the most that can still be added. */
-        private final int[] hope = new int[MOST_PEOPLE + 1];
+        /** With so many seats taken, the most that can still be added; nothing behind the last pair. */
+        private final int[] hope = new int[MOST_PEOPLE + 2];
 
         void invite(Party party, int bits, int excused) {
             among = bits;
@@ -1363,7 +1362,7 @@ public final class SeatedByDebts {
                         }
                     }
                 }
-                hope[seat + 1] = (seat + 2 < hope.length ? hope[seat + 2] : 0) + most;
+                hope[seat + 1] = hope[seat + 2] + most;
             }
             hope[0] = hope[1];
         }
