@@ -395,14 +395,13 @@ public final class SeatedByDebts {
         if (!isSheet(sheet)) {
             return BAD;
         }
-        if (!isGladdest(party)) {
-            return 0;
-        }
-        sheets[sheet].become(BYTES, seating.size);
-        for (int i = 0; i < seating.size; i++) {
+        // that there is none is no refusal: the sheet is a row of nobody then
+        int sitting = isGladdest(party) ? seating.size : 0;
+        sheets[sheet].become(BYTES, sitting);
+        for (int i = 0; i < sitting; i++) {
             sheets[sheet].put(i, seating.best[i]);
         }
-        return seating.size;
+        return sitting;
     }
 
     public int drawn(int seed) {

@@ -39,7 +39,7 @@ public final class LanguageTest {
         int lines = 0;
         for (String line : code.split("\n")) {
             lines++;
-            if (line.matches(" {4,8}\\w.*\\) \\{")) {
+            if (line.matches(" {4,8}(?!if |for |while |switch )\\w.*\\) \\{")) {
                 header = line;
                 lines = 1;
             }

@@ -403,7 +403,7 @@ final class Model {
     int film(int sheet) {
         if (sheet < 0 || sheet > 3) return BAD;
         List<Integer> t = gladdest();
-        if (t == null) return 0;
+        if (t == null) t = List.of();
         sorts[sheet] = 0;
         sheets[sheet] = t.stream().mapToInt(Integer::intValue).toArray();
         return t.size();

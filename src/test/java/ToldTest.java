@@ -122,11 +122,32 @@ public final class ToldTest {
     private static void filmOfNone() {
         SeatedByDebts x = Due.people(0, 0, 0, 0, 0, 0, 0, 0);
         for (int i = 1; i < 4; i++) x.owe(i, 0, 9);
+        Due.is("there is none", x.tables(0), 0);
+        x.sheet(0, 0, 1);
         Due.is("there is none, of a missing sheet", x.film(1), 0);
-        Due.is("it is missing still", x.cell(1, 0, 0), -11);
-        x.sheet(1, 2, 1);
-        Due.is("there is none, of a sheet", x.film(1), 0);
-        Due.is("it is as it was", x.cell(1, 0, 0), 1);
+        isRowOfNoBytes(x, 1);
+        x.sheet(1, 2, 5);
+        Due.is("there is none, of a row of ints", x.film(1), 0);
+        isRowOfNoBytes(x, 1);
+        x.film(1);
+        Due.is("no such sheet changes nothing", x.film(4), -2);
+        isRowOfNoBytes(x, 1);
+        Due.is("a dinner of nobody", x.dine(1), 27);
+        Due.is("is a dinner", x.count(3), 1);
+        Due.is("it tells no table of all", x.tells(1, 0, 0), -2);
+        x.owe(3, 0, 0);
+        Due.is("with a table again", x.film(1), 4);
+        Due.is("it is one of four", x.cell(1, 3, 0), 1);
+        Due.is("and no more", x.cell(1, 4, 0), -12);
+    }
+
+    /** Sheet 0 is a row of bytes then. */
+    private static void isRowOfNoBytes(SeatedByDebts x, int sheet) {
+        Due.is("it has no items", x.cell(sheet, 0, 0), -12);
+        Due.is("it is of bytes", x.copy(sheet, 0, 0, 0, 0), 0);
+        Due.is("it tells a lawful table of nobody", x.table(sheet, 0), 1);
+        Due.is("of no joy", x.table(sheet, 1), 0);
+        Due.is("that clears nothing", x.table(sheet, 2), x.count(1));
     }
 
     private static int debtOfDraw(int seed, int nth) {
