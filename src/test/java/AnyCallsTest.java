@@ -40,24 +40,15 @@ public final class AnyCallsTest {
             if (m.getDeclaringClass() != SeatedByDebts.class) continue;
             Object[] args = new Object[m.getParameterCount()];
             for (int k = 0; k < args.length; k++) args[k] = random.nextInt(3) == 0 ? ODD[random.nextInt(ODD.length)] : random.nextInt(4);
-            String before = m.getName().equals("guests") || m.getName().equals("text") ? "" : state(x);
+            String before = m.getName().equals("guests") || m.getName().equals("text") ? "" : Seen.of(x);
             String call = m.getName() + java.util.Arrays.toString(args);
             try {
                 long got = ((Number) m.invoke(x, args)).longValue();
                 boolean refused = got <= -2 && got >= -14 && !m.getName().equals("table") && !m.getName().equals("tables");
-                if (refused && !before.isEmpty()) Due.is(call + " changes nothing", state(x).equals(before) ? 1 : 0, 1);
+                if (refused && !before.isEmpty()) Due.is(call + " changes nothing", Seen.of(x).equals(before) ? 1 : 0, 1);
             } catch (InvocationTargetException e) {
                 Due.is(call + " throws " + e.getCause(), 1, 0);
             }
         }
-    }
-
-    /** All that can be asked without changing anything. */
-    private static String state(SeatedByDebts x) {
-        StringBuilder b = new StringBuilder();
-        for (int what = 0; what < 7; what++) b.append(x.count(what)).append(' ');
-        for (int one = 0; one < 7; one++) for (int what = 0; what < 17; what++) b.append(x.told(one, what)).append(' ');
-        for (int s = 0; s < 4; s++) b.append(x.table(s, 0)).append(' ').append(x.copy(s, 0, s, 0, 1)).append(' ').append(x.copy(s, 0, (s + 1) % 4, 0, 0));
-        return b.toString();
     }
 }

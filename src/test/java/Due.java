@@ -13,6 +13,18 @@ final class Due {
         }
     }
 
+    /** A call of which a test tells the answer. */
+    interface Call {
+        long answer();
+    }
+
+    /** A refusal: the answer, and that nothing has changed. */
+    static void refused(String call, SeatedByDebts x, Call refused, long want) {
+        String before = Seen.of(x);
+        is(call, refused.answer(), want);
+        is(call + " (it changes nothing)", Seen.of(x).equals(before) ? 1 : 0, 1);
+    }
+
     static int wrong() { return wrong; }
 
     static void end(String test) {
