@@ -87,6 +87,12 @@ public final class PromiseEdgesTest {
         says("2 set: what it was: NONE", x.set(3, 1, 0), -1);
         says("2 set: what it was: number 0", x.set(3, 1, -1), 0);
         says("2 set: what it was: the same", x.set(2, 1, 0), 0);
+        says("2 set: what it was: NUMBER 0", x.set(2, 1, 9), 0);
+        says("2 set: what it was: NUMBER 9", x.set(2, 1, 0), 9);
+        says("2 set: what it was: ROUND", x.set(0, 0, 0), 1);
+        says("2 set: what it was: long", x.set(0, 0, 0), 0);
+        says("2 set: v: it is long", x.told(0, 0), 0);
+        says("2 set: what it was: DINNERS", x.set(1, 0, 0), 7);
     }
 
     private static void guest() {
@@ -132,6 +138,9 @@ public final class PromiseEdgesTest {
         says("5 told: 7 what one OWES all: 0", x.told(0, 7), 0);
         for (int i = 0; i < 6; i++) x.owe(6, i, 999);
         says("5 told: 7 what one OWES all: as much as can be", x.told(6, 7), 5994);
+        x.set(3, 0, 6);
+        says("5 told: 3 whom one WANTS: the last", x.told(0, 3), 6);
+        says("5 told: 3 whom one WANTS: NONE", x.told(6, 3), -1);
         for (int of : new int[] {-1, 7, MAX, MIN}) {
             says("5 told: 0 as of set(): of does not matter: " + of, x.told(of, 0), 1);
             says("5 told: 1 as of set(): of does not matter: " + of, x.told(of, 1), 0);
@@ -273,7 +282,26 @@ public final class PromiseEdgesTest {
         }
         String before = Seen.of(x);
         for (int what = 0; what < 5; what++) x.tables(what);
+        for (int k = 0; k < 20; k++) clearest(k);
         says("11 tables: OWED then: in thought", Seen.of(x).equals(before) ? 1 : 0, 1);
+    }
+
+    /** Whether of all long tables of three hosts, who owe each other unlike debts, the first that clears most is told. */
+    private static void clearest(int k) {
+        SeatedByDebts x = Due.people(2, 0, 2, 1, 2, 2);
+        x.set(0, 0, 0);
+        for (int one = 0; one < 3; one++) for (int other = 0; other < 3; other++) x.owe(one, other, (37 * one * one + 91 * other + 53 * k * (one + 2 * other)) % 200);
+        x.force(Due.read(x, "forgives debt*(seat=1)+back*(seat=2);lends seat*2;joys 0;"));
+        int[][] orders = {{0, 1, 2}, {0, 2, 1}, {1, 0, 2}, {1, 2, 0}, {2, 0, 1}, {2, 1, 0}};
+        int least = MAX, first = 0;
+        for (int[] o : orders) {
+            Due.lay(x, 0, o);
+            if (x.table(0, 2) >= least) continue;
+            least = x.table(0, 2);
+            first = o[0] * 100 + o[1] * 10 + o[2] + 111;
+        }
+        says("11 tables: CLEAREST, of unlike debts: " + k, x.tables(3), first);
+        says("11 tables: OWED then, of unlike debts: " + k, x.tables(4), least);
     }
 
     private static void bars() {

@@ -491,6 +491,12 @@ public final class TermsEdgesTest {
         x.owe(0, 1, 998);
         rule(x, "0", "1", "0");
         says("999 at most in thought, too", x.run(20, 1), 999 + 20);
+        // 1 and 2 must sit by 0, 3 by 1, who forgives so much that 3 must sit by 0, too, who has but two seats beside
+        SeatedByDebts later = guests(4);
+        int[][] debts = {{1, 0, 900}, {2, 0, 900}, {3, 0, 8}, {3, 1, 10}};
+        for (int[] d : debts) later.owe(d[0], d[1], d[2]);
+        says("the GLADDEST TABLE by then, as long as there is one: 1 is held", later.run(20, 0), 1);
+        says("OWED at last, by the one that is held", later.run(20, 1), 1818 - 3 * 5 + 8 * 2);
         SeatedByDebts z = guests(3);
         z.owe(0, 1, 990);
         z.owe(0, 2, 1);

@@ -227,6 +227,7 @@ public final class TextEdgesTest {
         says("back: what one OWES the neighbour", joys("back"), 40);
         says("number: NUMBER: 0", joys("number", 0), 0);
         says("number: NUMBER: 9", joys("number", 9), 9);
+        ofBoth();
         for (int n = 2; n <= 7; n++) {
             SeatedByDebts x = Due.people(new int[14]);
             int[] seats = new int[n];
@@ -242,6 +243,36 @@ public final class TextEdgesTest {
             x.set(3, 6, 5);
             x.force(Due.read(x, "forgives 0;lends 0;joys wanted*7;"));
             says("wanted: 1, if one WANTS the neighbour, else 0: " + n, x.table(0, 1), 17);
+        }
+    }
+
+    /** Two guests, 3 and 8 by number: 0 owes 1 40 and wants 1, 1 owes 0 70 and wants none. */
+    private static SeatedByDebts two(String lends, String joys) {
+        SeatedByDebts x = Due.people(0, 3, 0, 8);
+        x.owe(0, 1, 40);
+        x.owe(1, 0, 70);
+        x.set(3, 0, 1);
+        x.force(Due.read(x, "forgives 0;lends " + lends + ";joys " + joys + ";"));
+        return x;
+    }
+
+    private static void ofBoth() {
+        String[] names = {"debt", "back", "number", "seats", "seat", "wanted"};
+        int[] zero = {70, 40, 3, 2, 0, 1};
+        int[] one = {40, 70, 8, 2, 1, 0};
+        for (int i = 0; i < 6; i++) {
+            SeatedByDebts x = two("0", names[i]);
+            Due.lay(x, 0, 0, 1);
+            says("each is GLAD by the own " + names[i], x.table(0, 1), zero[i] + 10 + one[i]);
+            // the one on seat 1 lends first, so that all is for that one as it was
+            SeatedByDebts y = two("(" + names[i] + "=" + one[i] + ")*5", "0");
+            Due.lay(y, 0, 0, 1);
+            y.dine(0);
+            says("1 LENDS by the own " + names[i], y.told(0, 11), 45);
+            SeatedByDebts z = two("(" + names[i] + "=" + (i == 4 ? 1 : zero[i]) + ")*5", "0");
+            Due.lay(z, 0, 1, 0);
+            z.dine(0);
+            says("0 LENDS by the own " + names[i], z.told(1, 10), 75);
         }
     }
 
